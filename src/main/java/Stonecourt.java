@@ -132,8 +132,8 @@ public final class Stonecourt {
             throw new UnsupportedOperationException();
         }
         game.begin(told);
-        blackClock.wind(told);
-        whiteClock.wind(told);
+        blackClock.wind(game.plan);
+        whiteClock.wind(game.plan);
         begun = true;
         end = GOES_ON;
         blackWon = false;
@@ -695,9 +695,9 @@ public final class Stonecourt {
 
         void begin(Plan next) {
             plan.copy(next);
-            grid.lay(next);
+            grid.lay(plan);
             count = 0;
-            keep(next.handicaps, 0, 0, 0);
+            keep(plan.handicaps, 0, 0, 0);
         }
 
         long blackAt(int position) {
@@ -766,15 +766,12 @@ public final class Stonecourt {
             if ((empty() & bit) == 0) {
                 return 'p';
             }
-            strikeAs(blackMoves(), blackNow(), whiteNow(), bit);
+            boolean byBlack = blackMoves();
+            strike.put(grid, byBlack ? blackNow() : whiteNow(), byBlack ? whiteNow() : blackNow(), bit);
             if (strike.lost == 1 || strike.lost > 1 && plan.ruleAt(SUICIDE) == 0) {
                 return 's';
             }
-            return repeats(count, blackBehind(blackMoves()), whiteBehind(blackMoves())) ? 'k' : FREE;
-        }
-
-        private void strikeAs(boolean byBlack, long blacks, long whites, long bit) {
-            strike.put(grid, byBlack ? blacks : whites, byBlack ? whites : blacks, bit);
+            return repeats(count, blackBehind(byBlack), whiteBehind(byBlack)) ? 'k' : FREE;
         }
 
         private long blackBehind(boolean byBlack) {
@@ -792,12 +789,11 @@ public final class Stonecourt {
         /** Whether the ko bars a position that comes behind the one with this number. */
         private boolean repeats(int now, long blacks, long whites) {
             int ko = plan.ruleAt(KO);
-            int first = ko == 1 ? now : now - 1;
             int last = ko == 0 ? Math.max(now - 1, 0) : 0;
-            // players take turns, so every second position has the same player to move
-            int step = ko == 1 ? 1 : 2;
-            for (int position = first; position >= last; position -= step) {
-                if (blackAt(position) == blacks && whiteAt(position) == whites) {
+            for (int position = now; position >= last; position--) {
+                // players take turns, so every second position has the same player to move
+                boolean counts = ko == 1 || (now - position) % 2 == 1;
+                if (counts && blackAt(position) == blacks && whiteAt(position) == whites) {
                     return true;
                 }
             }
@@ -920,7 +916,7 @@ public final class Stonecourt {
             for (int move = 0; move < count; move++) {
                 if (pointAt(move) != PASS) {
                     boolean byBlack = isByBlack(move);
-                    strikeAs(byBlack, blacks, whites, 1L << pointAt(move));
+                    strike.put(grid, byBlack ? blacks : whites, byBlack ? whites : blacks, 1L << pointAt(move));
                     blacks = blackBehind(byBlack);
                     whites = whiteBehind(byBlack);
                     blackGain += gainOf(true, byBlack);

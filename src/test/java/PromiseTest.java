@@ -421,6 +421,7 @@ public final class PromiseTest {
             is("barred(1, 1), a position taken back", c.barred(1, 1), '-');
             koOfThreePoints(rule);
             koBehindAPass(rule);
+            koOfTheBeginning(rule);
         }
     }
 
@@ -439,6 +440,19 @@ public final class PromiseTest {
         is("the board", look(c, 2, 2), "ww/.#");
         is("the board behind the first move, by ko " + rule, c.barred(0, 1), rule == 2 ? 'k' : '-');
         is("isSound()", c.isSound(), true);
+    }
+
+    /** White has taken the one handicap; to take back comes to the beginning. */
+    private static void koOfTheBeginning(int rule) {
+        Stonecourt c = new Stonecourt();
+        c.board(2, 2);
+        c.block(0, 1);
+        c.block(1, 1);
+        c.handicap(0, 0);
+        c.rule('k', rule);
+        c.start();
+        is("play(1, 0)", c.play(1, 0), 1);
+        is("the beginning, by ko " + rule, c.barred(0, 0), 'k');
     }
 
     /** White's suicide comes to the board ahead of its move before; black has passed between them. */
@@ -510,7 +524,17 @@ public final class PromiseTest {
         refuses("liberties(3, 0)", NONE, () -> c.liberties(3, 0));
         refuses("liberties(1, 2)", NONE, () -> c.liberties(1, 2));
         refuses("liberties(0, 3)", INDEX, () -> c.liberties(0, 3));
+        c.board(3, 3);
+        c.start();
+        moves(c, "-- ac cb");
+        is("liberties(0, 2) of another width", c.liberties(0, 2), 3);
+        is("liberties(2, 1) of another width", c.liberties(2, 1), 4);
         c.rule('w', 0);
+        c.start();
+        moves(c, "ac cb");
+        is("liberties(0, 2) of another width", c.liberties(0, 2), 2);
+        is("liberties(2, 1) of another width", c.liberties(2, 1), 3);
+        c.board(4, 3);
         c.start();
         moves(c, "aa da");
         is("liberties(0, 0) without", c.liberties(0, 0), 2);
@@ -635,6 +659,12 @@ public final class PromiseTest {
         refuses("margin()", STATE, () -> new Stonecourt().margin());
         promise = 22;
         is("score('b') of an empty board", on(5, 5).score('b'), 0);
+        Stonecourt e = moves(on(3, 3), "ab aa ba");
+        is("score('b') with a prisoner", e.score('b'), 7 + 1);
+        is("score('w')", e.score('w'), 0);
+        Stonecourt f = moves(on(3, 3), "-- ab aa ba");
+        is("score('w') with a prisoner", f.score('w'), 7 + 1);
+        is("score('b')", f.score('b'), 0);
     }
 
     private static void passesThatCost() {
@@ -648,6 +678,9 @@ public final class PromiseTest {
             is("score('w'), a pass of black, " + cost, c.score('w'), cost);
             c.undo();
             is("score('w'), none of black", c.score('w'), 0);
+            c.start();
+            moves(c, "-- bb");
+            is("score('w'), a pass of black at first, " + cost, c.score('w'), 8 + cost);
         }
     }
 
@@ -690,6 +723,13 @@ public final class PromiseTest {
         is("safe('w')", d.safe('w'), 0);
         refuses("safe('x')", ARGUMENT, () -> d.safe('x'));
         refuses("safe('x')", STATE, () -> new Stonecourt().safe('x'));
+        Stonecourt w = moves(on(5, 2), "ea ba -- bb -- ca -- da -- db");
+        promise = 25;
+        is("isAlive(1, 0) of white", w.isAlive(1, 0), true);
+        is("isAlive(4, 0) of black", w.isAlive(4, 0), false);
+        promise = 26;
+        is("safe('w')", w.safe('w'), 10);
+        is("safe('b')", w.safe('b'), 0);
         Stonecourt f = moves(on(7, 3), "ba -- bb -- ab -- gc");
         is("safe('w') of a stone in a large area", f.safe('w'), 0);
         is("safe('b') of an empty board", on(3, 3).safe('b'), 0);
@@ -746,6 +786,9 @@ public final class PromiseTest {
         is("isCaught(1, 0, 2) by suicide", f.isCaught(1, 0, 2), false);
         Stonecourt g = moves(on(3, 3), "bb");
         is("isCaught(1, 1, 3) with four liberties", g.isCaught(1, 1, 3), false);
+        Stonecourt h = moves(on(5, 5), "-- ba bb");
+        is("isCaught(1, 0, 2) of white", h.isCaught(1, 0, 2), true);
+        is("isCaught(1, 0, 1) of white", h.isCaught(1, 0, 1), false);
         caughtButForAnAnswer();
     }
 
@@ -820,6 +863,18 @@ public final class PromiseTest {
         is("found() in all ways", d.found(), 2);
         d.pattern(4, 'b');
         is("found() with a stone", d.found(), 0);
+        Stonecourt e = moves(on(3, 3), "bb");
+        e.pattern(4, 'b');
+        e.pattern(0, 'b');
+        e.pattern(1, 'w');
+        e.pattern(2, '.');
+        for (String turned : "aa ba,ca ba,aa ab,ac ab,ca cb,cc cb,ac bc,cc bc".split(",")) {
+            moves(e, "-- " + turned.substring(0, 2) + " " + turned.substring(3));
+            is("found() of " + turned, e.found(), 1);
+            e.undo();
+            e.undo();
+            e.undo();
+        }
         d.start();
         d.pattern(0, '?');
         d.pattern(1, 'w');
@@ -835,20 +890,25 @@ public final class PromiseTest {
         for (String at : "aa ba ab bb".split(" ")) {
             is("shape() of black at " + at, moves(on(2, 2), at).shape(), 7L * 31 * 31 * 31 * 31 + 1);
         }
+        for (String at : "aa ca ab cb".split(" ")) {
+            is("shape() of black at " + at, moves(on(3, 2), at).shape(), sum(7, 0, 0, 0, 0, 0, 1));
+        }
+        for (String at : "ba aa,aa ba,ba ca,ca ba,ab aa,aa ab,ab ac,ca cb,cb cc,cc bc,bc ac".split(",")) {
+            boolean corner = !at.startsWith("b") && !at.matches(".b .*");
+            long due = corner ? sum(7, 0, 0, 0, 0, 0, 0, 0, 2, 1) : sum(7, 0, 0, 0, 0, 0, 0, 0, 1, 2);
+            is("shape() of " + at, moves(on(3, 3), at).shape(), due);
+        }
         Stonecourt c = new Stonecourt();
         c.board(2, 3);
         c.block(0, 2);
         c.start();
         moves(c, "aa ba");
-        // bw/../#. has #. first if turned by half or mirrored in rows; bw.. .# is the least
-        long seven = 7;
-        long[] cells = {1, 2, 0, 0, 3, 0};
-        long[] ways = {sum(seven, 1, 2, 0, 0, 3, 0), sum(seven, 2, 1, 0, 0, 0, 3), sum(seven, 3, 0, 0, 0, 1, 2),
-            sum(seven, 0, 3, 0, 0, 2, 1)};
+        long[] ways = {sum(7, 1, 2, 0, 0, 3, 0), sum(7, 2, 1, 0, 0, 0, 3), sum(7, 3, 0, 0, 0, 1, 2),
+            sum(7, 0, 3, 0, 0, 2, 1)};
         long least = ways[0];
         for (long way : ways) least = Math.min(least, way);
         is("shape() of six points", c.shape(), least);
-        is("that of the mirrored rows", least == sum(seven, 0, 3, 0, 0, 2, 1) && cells.length == 6, true);
+        is("the least", least, sum(7, 0, 3, 0, 0, 2, 1));
         Stonecourt d = moves(on(3, 3), "ba ca");
         Stonecourt e = moves(on(3, 3), "cb cc");
         is("shapes of turned boards", d.shape(), e.shape());
@@ -960,6 +1020,15 @@ public final class PromiseTest {
         is("value(2) for white, a stone of each more", c.value(2), -2);
         c.pass();
         is("value(2) as to pass ends the game", c.value(2), 18);
+        Stonecourt d = new Stonecourt();
+        d.board(3, 2);
+        d.komi(0);
+        d.rule('s', 1);
+        d.start();
+        moves(d, "ba -- bb aa -- ab");
+        is("value(0) with all the board", d.value(0), 12);
+        is("value(1)", d.value(1), 12);
+        is("value(2) as white comes again", d.value(2), 6);
         promise = 35;
         is("best(2) to end the game", c.best(2), -1);
         promise = 36;
@@ -1049,9 +1118,11 @@ public final class PromiseTest {
         is("checksum()", c.checksum(), sum(7, '.', '.', '.', '#', 0, 0, 0));
         moves(c, "ba aa");
         is("checksum()", c.checksum(), sum(7, 'w', '.', '.', '#', 0, 1, 2));
+        is("checksum()", moves(on(2, 2), "aa ba bb").checksum(), sum(7, 'b', '.', '.', 'b', 1, 0, 3));
         promise = 40;
         is("fullShare()", c.fullShare(), 1f / 3f);
         refuses("fullShare()", STATE, () -> new Stonecourt().fullShare());
+        is("fullShare()", moves(on(3, 3), "aa bb ba").fullShare(), 3f / 9f);
         is("fullShare() of nothing", on(3, 3).fullShare(), 0f);
         promise = 41;
         is("meanLiberties()", c.meanLiberties(), 2.0);
