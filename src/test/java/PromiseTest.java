@@ -802,6 +802,13 @@ public final class PromiseTest {
         is("isCaught(1, 0, 2)", c.isCaught(1, 0, 2), true);
         moves(c, "cb");
         is("isCaught(1, 0, 2) as its catcher is taken", c.isCaught(1, 0, 2), false);
+        Stonecourt d = new Stonecourt();
+        d.handicap(4, 4);
+        d.start();
+        moves(d, "aa bd dd ec de be cc cd da ab ba eb ad ac bb -- ed --");
+        is("the board", look(d, 5, 5), "ww.w./bw..b/b.w.b/wbbww/.b.w.");
+        // white could get out by taking (0, 1) and (0, 2) at (1, 2), but these are not next to it
+        is("isCaught(3, 4, 4)", d.isCaught(3, 4, 4), true);
     }
 
     private static void influence() {
