@@ -204,7 +204,7 @@ public final class Stonecourt {
             throws IllegalStateException, IndexOutOfBoundsException, NoSuchElementException {
         mustBeBegun();
         long group = groupOf(pointOf(x, y));
-        return Long.bitCount(game.grid.around(group) & game.empty());
+        return Long.bitCount(game.grid.withNeighbours(group) & game.empty());
     }
 
     public int prisoners(char side) throws IllegalStateException, IllegalArgumentException {
@@ -439,7 +439,7 @@ public final class Stonecourt {
                 long group = game.groupAt(point);
                 rest &= ~group;
                 groups++;
-                sum += Long.bitCount(game.grid.around(group) & game.empty());
+                sum += Long.bitCount(game.grid.withNeighbours(group) & game.empty());
             }
         }
         if (groups == 0) {
@@ -571,7 +571,6 @@ public final class Stonecourt {
         }
     }
 
-    /** The points of a board and what hangs together on it. */
     private static final class Grid {
         private int width = LEAST_SIDE;
         private int height = LEAST_SIDE;
@@ -616,8 +615,7 @@ public final class Stonecourt {
             return (open >>> point & 1) != 0;
         }
 
-        /** These points and their neighbours, as far as they are not blocked. */
-        long around(long some) {
+        long withNeighbours(long some) {
             long wide = some | (some & ~lastColumn) << 1 | (some & ~firstColumn) >>> 1;
             wide |= some << width | some >>> width;
             if (wraps) {
@@ -626,11 +624,10 @@ public final class Stonecourt {
             return wide & open;
         }
 
-        /** All of the room that hangs together with the seeds in it. */
         long fill(long seeds, long room) {
             long filled = seeds & room;
             for (int step = 0; step < MOST_POINTS; step++) {
-                long wider = around(filled) & room;
+                long wider = withNeighbours(filled) & room;
                 if (wider == filled) {
                     return filled;
                 }
@@ -639,9 +636,9 @@ public final class Stonecourt {
             return filled;
         }
 
-        /** The stones whose groups have liberties. */
+        /** One fill from all liberties at once, so that groups need not be gone through. */
         long breathing(long some, long empty) {
-            return fill(around(empty), some);
+            return fill(withNeighbours(empty), some);
         }
 
         int steps(int from, int to) {
@@ -653,7 +650,7 @@ public final class Stonecourt {
         }
     }
 
-    /** What a stone that is put on an empty point comes to. */
+    /** What a stone comes to; kept and filled again, as one call may try some thousand stones. */
     private static final class Strike {
         private long own;
         private long other;
@@ -665,15 +662,15 @@ public final class Stonecourt {
             other = grid.breathing(theirs, grid.open & ~(put | theirs));
             taken = Long.bitCount(theirs) - Long.bitCount(other);
             long group = grid.fill(bit, put);
-            boolean breathes = (grid.around(group) & grid.open & ~(put | other)) != 0;
+            boolean breathes = (grid.withNeighbours(group) & grid.open & ~(put | other)) != 0;
             own = breathes ? put : put & ~group;
             lost = breathes ? 0 : Long.bitCount(group);
         }
     }
 
     /**
-     * The game that was begun last: its positions, from the beginning to now, and the moves between them. What a
-     * search tries stands behind them for a while.
+     * The game that was begun last. All its positions are kept, for kos and for undo; what a search tries stands
+     * behind them for a while, so that looking ahead needs no copies.
      */
     private static final class Game {
         private final Plan plan = new Plan();
@@ -751,13 +748,12 @@ public final class Stonecourt {
             return (whiteNow() >>> point & 1) != 0 ? WHITE : EMPTY;
         }
 
-        /** The group at a point, nothing if there is no stone. */
         long groupAt(int point) {
             long bit = 1L << point;
             return grid.fill(bit, (blackNow() & bit) != 0 ? blackNow() : whiteNow());
         }
 
-        /** Why a move is barred; the strike holds what it comes to, for advance(). */
+        /** The strike then holds what the move comes to, so that advance() need not find it again. */
         char judge(int point) {
             if (!grid.isOpen(point)) {
                 return BLOCKED;
@@ -786,7 +782,6 @@ public final class Stonecourt {
             return blacks == byBlack ? strike.taken : strike.lost;
         }
 
-        /** Whether the ko bars a position that comes behind the one with this number. */
         private boolean repeats(int now, long blacks, long whites) {
             int ko = plan.ruleAt(KO);
             int last = ko == 0 ? Math.max(now - 1, 0) : 0;
@@ -800,7 +795,7 @@ public final class Stonecourt {
             return false;
         }
 
-        /** Makes the move that was judged just before. */
+        /** Only just behind judge() of this point, for it takes what the strike holds. */
         int advance(int point) {
             boolean byBlack = blackMoves();
             int blacks = prisonersOf(true) + gainOf(true, byBlack);
@@ -843,7 +838,7 @@ public final class Stonecourt {
             }
         }
 
-        /** The stones, and the points of regions next to them, also of regions next to the others. */
+        /** To go through own stones does no harm: what is behind them is next to them, too. */
         private long reach(long mine, long theirs) {
             return grid.fill(mine, grid.open & ~theirs);
         }
@@ -870,7 +865,7 @@ public final class Stonecourt {
             return passes;
         }
 
-        /** The margin by area for the player to move; what both reach falls out of the difference. */
+        /** What both reach is of nobody, but falls out of the difference. */
         int standing() {
             int blacks = Long.bitCount(reach(blackNow(), whiteNow()));
             int whites = Long.bitCount(reach(whiteNow(), blackNow()));
@@ -907,7 +902,6 @@ public final class Stonecourt {
             return put == kept + prisonersOf(true) + prisonersOf(false);
         }
 
-        /** Plays the record once more, from the handicaps on. */
         boolean comesToTheSame() {
             long blacks = plan.handicaps;
             long whites = 0;
@@ -933,9 +927,8 @@ public final class Stonecourt {
         }
     }
 
-    /** Looks for what is best some moves ahead, by moves that are taken back behind it. */
     private static final class Search {
-        /** What the player to move comes to; from enough on it may be more, for then it is not asked for. */
+        /** From enough on it stops, for then the move that led here is worse than another one, however much. */
         private static int worth(Game game, int depth, int enough) {
             if (depth <= 0 || game.hasTwoPasses()) {
                 return game.standing();
@@ -951,7 +944,7 @@ public final class Stonecourt {
             return top;
         }
 
-        /** The same by a move that was judged just before. */
+        /** Only just behind judge() of this point, as advance() is. */
         private static int worthBy(Game game, int point, int depth, int enough) {
             game.advance(point);
             int comesTo = -worth(game, depth - 1, enough);
@@ -960,13 +953,12 @@ public final class Stonecourt {
         }
     }
 
-    /** Reads whether groups can be caught. */
     private static final class Reader {
         private final Strike strike = new Strike();
 
         private boolean catches(Grid grid, long prey, long hunters, long seed, int moves) {
             long empty = grid.open & ~(prey | hunters);
-            long free = grid.around(grid.fill(seed, prey)) & empty;
+            long free = grid.withNeighbours(grid.fill(seed, prey)) & empty;
             int liberties = Long.bitCount(free);
             if (liberties > moves || moves < 1) {
                 return false;
@@ -1005,12 +997,12 @@ public final class Stonecourt {
 
         private static long answersOf(Grid grid, long prey, long hunters, long seed) {
             long empty = grid.open & ~(prey | hunters);
-            long near = grid.around(grid.fill(seed, prey));
+            long near = grid.withNeighbours(grid.fill(seed, prey));
             long answers = near & empty;
             long rest = near & hunters;
             for (int point = 0; point < grid.size(); point++) {
                 long hunter = grid.fill(rest & 1L << point, hunters);
-                long free = grid.around(hunter) & empty;
+                long free = grid.withNeighbours(hunter) & empty;
                 rest &= ~hunter;
                 if (Long.bitCount(free) == 1) {
                     answers |= free;
@@ -1020,7 +1012,6 @@ public final class Stonecourt {
         }
     }
 
-    /** Life that nobody can take. */
     private static final class Life {
         private static long aliveOf(Grid grid, long own, long empty) {
             long staying = own;
@@ -1051,7 +1042,7 @@ public final class Stonecourt {
 
         private static long areasLeft(Grid grid, long own, long staying) {
             long areas = grid.open & ~own;
-            return areas & ~grid.fill(grid.around(own & ~staying), areas);
+            return areas & ~grid.fill(grid.withNeighbours(own & ~staying), areas);
         }
 
         private static long withTwoVital(Grid grid, long staying, long areas, long empty) {
@@ -1069,9 +1060,9 @@ public final class Stonecourt {
             return kept;
         }
 
-        /** All areas but those with an empty point that is no liberty of the group. */
+        /** No stones stay without liberties, so each area has an empty point: one far from the group is left out. */
         private static long vitalTo(Grid grid, long group, long areas, long empty) {
-            return areas & ~grid.fill(empty & ~grid.around(group), areas);
+            return areas & ~grid.fill(empty & ~grid.withNeighbours(group), areas);
         }
     }
 
@@ -1117,7 +1108,6 @@ public final class Stonecourt {
         }
     }
 
-    /** The pattern that is looked for. */
     private static final class Pattern {
         private final char[] cells = new char[CELLS];
 
@@ -1166,7 +1156,6 @@ public final class Stonecourt {
         }
     }
 
-    /** The clock of one player. */
     private static final class Clock {
         private int mainLeft;
         private int periodsLeft;
