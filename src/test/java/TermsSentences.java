@@ -462,6 +462,10 @@ final class TermsSentences extends Sentences {
         run("board(7, 7); start(); go cc bc -- cb; isCaught(2, 2, 2) = false; isCaught(2, 2, 4) = false");
         run("start(); go aa ba -- ab; undo(); isCaught(0, 0, 1) = true; isCaught(1, 0, 1) = false");
         run("start(); go -- aa ba; isCaught(0, 0, 1) = true; isCaught(1, 0, 1) = false");
+        // the one move that does it is on the board's first point, then on its last one
+        String round = "board(5, 3); rule('w', 1); start(); ";
+        run(round + "go ba bb -- cb -- da; isCaught(1, 0, 1) = false; isCaught(1, 0, 2) = true");
+        run(round + "go dc db -- cb -- bc; isCaught(3, 2, 1) = false; isCaught(3, 2, 2) = true");
 
         says("Reading", "with one liberty by taking it;");
         for (int moves = 1; moves <= 4; moves++) {
@@ -492,11 +496,17 @@ final class TermsSentences extends Sentences {
         says("Reading", "a move on a liberty of the group,");
         run("board(5, 5); start(); go ca cb; isCaught(2, 0, 2) = false");
         run("board(5, 5); start(); go ba bb; isCaught(1, 0, 2) = true; go ca; isCaught(1, 0, 2) = false");
+        // the one answer is on the board's first point, then on its last one
+        run("start(); go ba bb ab; isCaught(1, 0, 2) = true; go -- ac; isCaught(1, 0, 2) = false");
+        run("start(); go de dd ed; isCaught(3, 4, 2) = true; go -- ec; isCaught(3, 4, 2) = false");
 
         says("Reading", "or one that takes a group next to it which has one liberty.");
         String beside = "board(4, 3); block(1, 1); start(); go ba dc; ";
         run(beside + "isCaught(1, 0, 2) = true; go cb; isCaught(1, 0, 2) = false");
         run(beside + "go da; isCaught(1, 0, 2) = false");
+        // what it takes is the board's first point, then its last one
+        run("start(); go ba aa ca bb -- cc -- db; isCaught(1, 0, 2) = false; go -- ab; isCaught(1, 0, 2) = true");
+        run("start(); go de ee ce dd -- cc -- bd; isCaught(3, 4, 2) = false; go -- ed; isCaught(3, 4, 2) = true");
         // white could get out by taking (0, 1) and (0, 2) at (1, 2), but these are not next to it
         run("handicap(4, 4); start(); go aa bd dd ec de be cc cd da ab ba eb ad ac bb -- ed --;"
             + "looks ww.w./bw..b/b.w.b/wbbww/.b.w.; isCaught(3, 4, 4) = true");
