@@ -204,6 +204,11 @@ final class MakingSentences extends Sentences {
         run("clock(0, 0, 1); start(); think(1); start(); isOver() = false; think(1) = -2000; start(); pass() = false");
         run("board(7, 7); start(); go gg; board(2, 2); start() = 4; looks ../..;"
             + "at(2, 0) throws IndexOutOfBoundsException");
+        // nor do the sides of its board, wider or not, and what was blocked there
+        run("board(2, 7); block(0, 1); start(); board(7, 2); block(3, 0); block(2, 1); handicap(2, 0); start() = 12;"
+            + "liberties(2, 0) = 1; go eb; liberties(4, 1) = 3; at(0, 1) = '.'");
+        run("board(7, 2); rule('w', 1); start(); rule('w', 0); board(3, 7); start() = 21; go ab; liberties(0, 1) = 3;"
+            + "go bb; liberties(1, 1) = 3; go cc; stones(2, 2) = 1; liberties(2, 2) = 3");
         // positions of the game before don't count
         for (int ko = 0; ko <= 2; ko++) {
             run("rule('k', " + ko + "); start(); go aa bb cc; start(); barred(0, 0) = '-'; go aa;"

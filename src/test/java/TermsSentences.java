@@ -449,6 +449,9 @@ final class TermsSentences extends Sentences {
         run("board(7, 3); " + columns + " -- cb; isAlive(1, 1) = true; safe('b') = 12; safe('w') = 0");
         run("board(7, 3); " + columns + " -- cb aa; isAlive(1, 1) = true; safe('b') = 12; safe('w') = 0");
         run("board(7, 3); " + columns + " -- cb -- gc; safe('b') = 12");
+        // a stone on the first point, then one on the last, with both other points its own
+        run("board(2, 2); block(1, 1); start(); go aa; isAlive(0, 0) = true; safe('b') = 3");
+        run("board(2, 2); block(0, 0); start(); go bb; isAlive(1, 1) = true; safe('b') = 3");
     }
 
     private void readingInMoves() {
@@ -492,6 +495,9 @@ final class TermsSentences extends Sentences {
         String eyes = "board(4, 4); start(); go ba bc da cc ab dc bb -- cb -- db; ";
         run(eyes + "looks .b.b/bbbb/.www/....; liberties(0, 1) = 3; isCaught(0, 1, 3) = false;"
             + "isCaught(0, 1, 4) = false");
+        // who has passed is to be caught by the moves that are left, not by one more
+        run("board(3, 2); start(); go ba ab ca; liberties(1, 0) = 3; isCaught(1, 0, 3) = false;"
+            + "isCaught(1, 0, 4) = false");
 
         says("Reading", "a move on a liberty of the group,");
         run("board(5, 5); start(); go ca cb; isCaught(2, 0, 2) = false");
