@@ -1,4 +1,5 @@
 import java.io.IOException;
+import java.lang.reflect.Array;
 import java.lang.reflect.Constructor;
 import java.lang.reflect.Field;
 import java.lang.reflect.Method;
@@ -6,6 +7,8 @@ import java.lang.reflect.Modifier;
 import java.nio.file.Files;
 import java.nio.file.Path;
 import java.util.ArrayList;
+import java.util.Collections;
+import java.util.IdentityHashMap;
 import java.util.List;
 import java.util.Set;
 import java.util.TreeSet;
@@ -13,14 +16,20 @@ import java.util.regex.Matcher;
 import java.util.regex.Pattern;
 
 /**
- * The class has the document's face and nothing else that can be seen, and its file keeps to those rules of LANGUAGE.md
- * that show in its text. Arguments: the class's file, DOC.md.
+ * The class has the document's face and nothing else that can be seen, its file keeps to those rules of LANGUAGE.md
+ * that show in its text, and all that it ever makes is made with the court. Arguments: the class's file, DOC.md.
  */
 public final class LanguageTest {
     private static final String[] BANNED = {
         "->", "::", "\\bcatch\\b", "\\bfinally\\b", "\\btry\\b", "\\bassert\\b", "\\bsynchronized\\b", "Exact\\(",
-        "\\bstatic \\{", "\\bpackage\\b", "\\bvar\\b", "\\bObject\\b", "Exception\\([^\")]", "\\bSystem\\.(?!arraycopy)",
+        "\\bstatic \\{", "\" \\+", "\\+ \"", "\\bpackage\\b", "\\bvar\\b", "\\bObject\\b", "Exception\\([^\")]",
         "\\bhashCode\\b", "\\btoString\\b", "\\bequals\\b", "\\bThread\\b", "while \\(true\\)", "for \\(;;\\)"};
+
+    private static final String LIBRARY = "(Math|Integer|Long)\\.(abs|min|max|compare|bitCount|floorDiv|floorMod)"
+        + "|System\\.arraycopy|Arrays\\.(copyOf|copyOfRange|fill)";
+    /** Far below what one room holds, so that a run may make some hundred courts. */
+    private static final int MOST_OBJECTS = 100;
+    private static final int MOST_PLACES = 5000;
 
     private static int failed;
 
@@ -104,6 +113,43 @@ public final class LanguageTest {
         note(code.replaceAll("(?s).*?import ([^;]*);|.*", "$1").equals("java.util.NoSuchElementException"), "imports");
         note(file.chars().allMatch(c -> c == '\n' || c >= 32 && c < 127), "the file has strange signs");
         methodLengths(file.split("\n"));
+        library(code);
+        for (String line : code.split("\n")) {
+            boolean makes = line.matches(".*\\bnew\\b.*");
+            boolean once = line.matches(" +private final \\S+ \\w+ = new .*") || line.matches(" +throw new .*");
+            note(!makes || once, "an object that is not made with the court: " + line.trim());
+        }
+    }
+
+    private static void library(String code) {
+        Matcher m = Pattern.compile("\\b(Math|Integer|Long|Character|Boolean|Double|Float|String|System|Arrays)\\.\\w+")
+            .matcher(code);
+        while (m.find()) note(m.group().matches(LIBRARY), "the file uses " + m.group());
+    }
+
+    /** What hangs on an object: objects and arrays first, then fields and elements. */
+    private static void weigh(Object object, Set<Object> seen, int[] sum) throws IllegalAccessException {
+        if (object == null || object instanceof String || !seen.add(object)) return;
+        sum[0]++;
+        if (object.getClass().isArray()) {
+            sum[1] += Array.getLength(object);
+            for (int i = 0; object instanceof Object[] row && i < row.length; i++) weigh(row[i], seen, sum);
+            return;
+        }
+        for (Field field : object.getClass().getDeclaredFields()) {
+            if (Modifier.isStatic(field.getModifiers())) continue;
+            sum[1]++;
+            field.setAccessible(true);
+            if (!field.getType().isPrimitive()) weigh(field.get(object), seen, sum);
+        }
+    }
+
+    /** With no other objects made than with the court, this is all that a run takes of its room. */
+    private static void room() throws IllegalAccessException {
+        int[] sum = new int[2];
+        weigh(new Stonecourt(), Collections.newSetFromMap(new IdentityHashMap<>()), sum);
+        boolean light = sum[0] <= MOST_OBJECTS && sum[1] <= MOST_PLACES;
+        note(light, "a court has " + sum[0] + " objects and " + sum[1] + " places");
     }
 
     /** From a line that opens a method to the brace that stands below its first sign. */
@@ -117,9 +163,10 @@ public final class LanguageTest {
         }
     }
 
-    public static void main(String[] arguments) throws IOException {
+    public static void main(String[] arguments) throws IOException, IllegalAccessException {
         text(Files.readString(Path.of(arguments[0])));
         face(Files.readString(Path.of(arguments[1])));
+        room();
         System.out.println(failed == 0 ? "the face and the text are as due" : failed + " faults of face and text");
         if (failed != 0) System.exit(1);
     }

@@ -449,6 +449,9 @@ final class TermsSentences extends Sentences {
         run("board(7, 3); " + columns + " -- cb; isAlive(1, 1) = true; safe('b') = 12; safe('w') = 0");
         run("board(7, 3); " + columns + " -- cb aa; isAlive(1, 1) = true; safe('b') = 12; safe('w') = 0");
         run("board(7, 3); " + columns + " -- cb -- gc; safe('b') = 12");
+        // what lies between two groups is vital to neither of them, though to both together it would be
+        run("board(3, 6); start(); go ba -- ab -- bb -- cb -- ae -- be -- ce -- bf; isAlive(1, 0) = true;"
+            + "isAlive(1, 5) = true; safe('b') = 12");
         // a stone on the first point, then one on the last, with both other points its own
         run("board(2, 2); block(1, 1); start(); go aa; isAlive(0, 0) = true; safe('b') = 3");
         run("board(2, 2); block(0, 0); start(); go bb; isAlive(1, 1) = true; safe('b') = 3");
@@ -516,6 +519,9 @@ final class TermsSentences extends Sentences {
         // white could get out by taking (0, 1) and (0, 2) at (1, 2), but these are not next to it
         run("handicap(4, 4); start(); go aa bd dd ec de be cc cd da ab ba eb ad ac bb -- ed --;"
             + "looks ww.w./bw..b/b.w.b/wbbww/.b.w.; isCaught(3, 4, 4) = true");
+        // it could take a stone, too, but only a move on its liberties gets it out
+        run("board(4, 2); start(); go ba ab bb; looks .b../wb..; isCaught(1, 0, 3) = false");
+        run("board(5, 2); start(); go aa cb; looks b..../..w..; isCaught(2, 1, 4) = false");
 
         says("Reading", "In reading suicide is not allowed,");
         for (int suicide = 0; suicide <= 1; suicide++) {
